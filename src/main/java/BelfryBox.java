@@ -425,21 +425,22 @@ public final class BelfryBox {
 
         void writePort(int port, int v) {
             switch (port) {
-                case 0 -> now[LOAD] = now[LOAD] & 0xff00 | v;
-                case 1 -> now[LOAD] = now[LOAD] & 255 | v << 8;
-                case 2 -> setClock(v & 1);
-                case 5 -> now[TURNS] = v & 1;
-                case 6 -> now[SPEED] = v;
-                case 7 -> strike(v & 7, v >> 3);
-                case 10 -> print(v);
-                case 11 -> now[WATCH] = 64 * v;
-                case 12 -> now[CAME] &= ~v;
-                case 13 -> now[MASK] = v;
-                case 14 -> now[SEED] = v;
-                default -> { }
+                case 0: now[LOAD] = now[LOAD] & 0xff00 | v; break;
+                case 1: now[LOAD] = now[LOAD] & 255 | v << 8; break;
+                case 2: setClock(v & 1); break;
+                case 5: now[TURNS] = v & 1; break;
+                case 6: now[SPEED] = v; break;
+                case 7: strike(v & 7, v >> 3); break;
+                case 10: print(v); break;
+                case 11: now[WATCH] = 64 * v; break;
+                case 12: now[CAME] &= ~v; break;
+                case 13: now[MASK] = v; break;
+                case 14: now[SEED] = v; break;
+                default: break;
             }
         }
 
+        /** The document asks only whether the clock ran until now: a write of 0 to one that stands loads it too. */
         private void setClock(int on) {
             if (now[RUNS] == 0) {
                 now[COUNT] = now[LOAD];
@@ -762,22 +763,22 @@ public final class BelfryBox {
 
         private void useValue(int o, int v) {
             switch (o) {
-                case 0 -> set(A, v);
-                case 1 -> set(X, v);
-                case 2 -> set(Y, v);
-                case 3 -> add(v);
-                case 4 -> add(255 - v);
-                case 5 -> set(A, now[A] & v);
-                case 6 -> set(A, now[A] | v);
-                case 7 -> set(A, now[A] ^ v);
-                case 8 -> compare(now[A], v);
-                case 9 -> compare(now[X], v);
-                case 10 -> compare(now[Y], v);
-                case 11 -> test(v);
-                case 12 -> multiply(v);
-                case 13 -> divide(v);
-                case 14 -> addTo(X, v);
-                default -> addTo(Y, v);
+                case 0: set(A, v); break;
+                case 1: set(X, v); break;
+                case 2: set(Y, v); break;
+                case 3: add(v); break;
+                case 4: add(255 - v); break;
+                case 5: set(A, now[A] & v); break;
+                case 6: set(A, now[A] | v); break;
+                case 7: set(A, now[A] ^ v); break;
+                case 8: compare(now[A], v); break;
+                case 9: compare(now[X], v); break;
+                case 10: compare(now[Y], v); break;
+                case 11: test(v); break;
+                case 12: multiply(v); break;
+                case 13: divide(v); break;
+                case 14: addTo(X, v); break;
+                default: addTo(Y, v); break;
             }
         }
 
@@ -826,16 +827,13 @@ public final class BelfryBox {
 
         private void useAddress(int o, int address) {
             switch (o) {
-                case 16 -> writeAt(address, now[A]);
-                case 17 -> writeAt(address, now[X]);
-                case 18 -> writeAt(address, now[Y]);
-                case 19 -> writeAt(address, 0);
-                case 30 -> now[P] = address;
-                case 31 -> {
-                    pushPlace();
-                    now[P] = address;
-                }
-                default -> writeAt(address, changed(o, readAt(address)));
+                case 16: writeAt(address, now[A]); break;
+                case 17: writeAt(address, now[X]); break;
+                case 18: writeAt(address, now[Y]); break;
+                case 19: writeAt(address, 0); break;
+                case 30: now[P] = address; break;
+                case 31: pushPlace(); now[P] = address; break;
+                default: writeAt(address, changed(o, readAt(address))); break;
             }
         }
 
@@ -843,22 +841,16 @@ public final class BelfryBox {
         private int changed(int o, int v) {
             int r = v;
             switch (o) {
-                case 20 -> r = v + 1;
-                case 21 -> r = v - 1;
-                case 22 -> r = shiftedLeft(v, 0);
-                case 23 -> r = shiftedRight(v, 0);
-                case 24 -> r = shiftedLeft(v, carry());
-                case 25 -> r = shiftedRight(v, carry());
-                case 26 -> r = v | now[A];
-                case 27 -> r = v & ~now[A];
-                case 28 -> {
-                    r = now[A];
-                    now[A] = v;
-                }
-                default -> {
-                    r = v + now[A];
-                    setFlag(FLAG_C, r > 255);
-                }
+                case 20: r = v + 1; break;
+                case 21: r = v - 1; break;
+                case 22: r = shiftedLeft(v, 0); break;
+                case 23: r = shiftedRight(v, 0); break;
+                case 24: r = shiftedLeft(v, carry()); break;
+                case 25: r = shiftedRight(v, carry()); break;
+                case 26: r = v | now[A]; break;
+                case 27: r = v & ~now[A]; break;
+                case 28: r = now[A]; now[A] = v; break;
+                default: r = v + now[A]; setFlag(FLAG_C, r > 255); break;
             }
             setNz(o == 28 ? v : r & 255);
             return r & 255;
@@ -966,49 +958,49 @@ public final class BelfryBox {
 
         private void move(int b) {
             switch (b) {
-                case 4 -> set(X, now[A]);
-                case 5 -> set(A, now[X]);
-                case 6 -> set(Y, now[A]);
-                case 7 -> set(A, now[Y]);
-                case 8 -> set(X, now[S]);
-                default -> now[S] = now[X];
+                case 4: set(X, now[A]); break;
+                case 5: set(A, now[X]); break;
+                case 6: set(Y, now[A]); break;
+                case 7: set(A, now[Y]); break;
+                case 8: set(X, now[S]); break;
+                default: now[S] = now[X]; break;
             }
         }
 
         private void useStack(int b) {
             switch (b) {
-                case 10 -> push(now[A]);
-                case 11 -> set(A, pull());
-                case 12 -> push(now[X]);
-                case 13 -> set(X, pull());
-                case 14 -> push(now[Y]);
-                case 15 -> set(Y, pull());
-                case 16 -> push(now[F]);
-                default -> now[F] = pull() & ALL_FLAGS;
+                case 10: push(now[A]); break;
+                case 11: set(A, pull()); break;
+                case 12: push(now[X]); break;
+                case 13: set(X, pull()); break;
+                case 14: push(now[Y]); break;
+                case 15: set(Y, pull()); break;
+                case 16: push(now[F]); break;
+                default: now[F] = pull() & ALL_FLAGS; break;
             }
         }
 
         private void changeFlag(int b) {
             switch (b) {
-                case 18 -> setFlag(FLAG_C, true);
-                case 19 -> setFlag(FLAG_C, false);
-                case 20 -> setFlag(FLAG_I, true);
-                case 21 -> setFlag(FLAG_I, false);
-                default -> setFlag(FLAG_V, false);
+                case 18: setFlag(FLAG_C, true); break;
+                case 19: setFlag(FLAG_C, false); break;
+                case 20: setFlag(FLAG_I, true); break;
+                case 21: setFlag(FLAG_I, false); break;
+                default: setFlag(FLAG_V, false); break;
             }
         }
 
         private void changeRegister(int b) {
             switch (b) {
-                case 23 -> set(X, now[X] + 1);
-                case 24 -> set(X, now[X] - 1);
-                case 25 -> set(Y, now[Y] + 1);
-                case 26 -> set(Y, now[Y] - 1);
-                case 27 -> set(A, now[A] + 1);
-                case 28 -> set(A, now[A] - 1);
-                case 29 -> set(A, 256 - now[A]);
-                case 30 -> set(A, now[A] << 4 | now[A] >> 4);
-                default -> set(A, decimals());
+                case 23: set(X, now[X] + 1); break;
+                case 24: set(X, now[X] - 1); break;
+                case 25: set(Y, now[Y] + 1); break;
+                case 26: set(Y, now[Y] - 1); break;
+                case 27: set(A, now[A] + 1); break;
+                case 28: set(A, now[A] - 1); break;
+                case 29: set(A, 256 - now[A]); break;
+                case 30: set(A, now[A] << 4 | now[A] >> 4); break;
+                default: set(A, decimals()); break;
             }
         }
 
@@ -1216,11 +1208,14 @@ public final class BelfryBox {
             kind = NAME;
         }
 
-        /** The number of the word that the letters are, or NONE; shorter words end with a blank. */
+        /** The number of the word that the letters are, or NONE; words shorter than the width end with blanks. */
         private int wordIn(String words, int width, int firstNumber) {
+            if (letters < 3 || letters > width) {
+                return NONE;
+            }
             for (int k = 0; width * (k + 1) <= words.length(); k++) {
                 int same = 0;
-                while (same < width && same < letters && words.charAt(width * k + same) == bytes[place + same]) {
+                while (same < letters && words.charAt(width * k + same) == bytes[place + same]) {
                     same++;
                 }
                 if (same == letters && (same == width || words.charAt(width * k + same) == ' ')) {
