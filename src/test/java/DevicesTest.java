@@ -123,6 +123,13 @@ public final class DevicesTest {
         box.run(1);
         Check.due("bit 2 of CAME", box.device(7), 4);
         Check.due("both have rested", box.device(12) + box.device(15), 0);
+        BelfryBox last = Check.program("sta 4087\nidl #92\nsta 4087\nsta 4087");
+        last.run(2);
+        Check.due("one cycle of rest is left", last.device(12), 1);
+        last.run(1);
+        Check.due("it is muffled yet", last.about(3), 1);
+        last.run(1);
+        Check.due("then it rings", last.about(6), 2);
         BelfryBox all = Check.program("lda #$ff\nsta 4087\nidl #94\nidl #255\nidl #255\nidl #103\nnop");
         all.run(2);
         Check.due("bell 7 rests 720, less 5", all.device(19), 715);
