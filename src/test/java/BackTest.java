@@ -35,8 +35,8 @@ public final class BackTest {
     }
 
     /** A program that changes all devices and has interrupts, a trap, and a reset by the watch. */
-    private static final String BUSY = "lda #200\nsta 4080\nsta 4086\nlda #1\nsta 4082\nsta 4085\nlda #15\nsta 4093\ncli\n"
-            + "lda #50\nsta 4091\n"
+    private static final String BUSY = "lda #200\nsta 4080\nsta 4086\nlda #1\nsta 4082\nsta 4085\n"
+            + "lda #15\nsta 4093\ncli\nlda #50\nsta 4091\n"
             + "loop: lda 4094\nsta 4087\nsta 4090\ninc 4087\nldx 4088\njsr deep\npsh #7\npla\ntrp #3\n"
             + "ldy #90\nswp <9\nror <9\nrol 300\nsty 4086\nidl #60\nbra loop\n"
             + "deep: phx\nphf\nplf\nplx\nrts\n"

@@ -4,15 +4,21 @@ import java.nio.charset.StandardCharsets;
 final class Check {
     private static int wrong = 0;
     private static int looked = 0;
+    private static String sentence = "";
 
     private Check() {
+    }
+
+    /** The document's words that the next answers are held against; they are told with an answer that is wrong. */
+    static void sentence(String words) {
+        sentence = "«" + words + "»: ";
     }
 
     static void due(String what, long got, long want) {
         looked++;
         if (got != want) {
             wrong++;
-            System.out.println(what + " answered " + got + ", due is " + want);
+            System.out.println(sentence + what + " answered " + got + ", due is " + want);
         }
     }
 
@@ -24,7 +30,7 @@ final class Check {
         looked++;
         if (!got.equals(want)) {
             wrong++;
-            System.out.println(what + " answered «" + got + "», due is «" + want + "»");
+            System.out.println(sentence + what + " answered «" + got + "», due is «" + want + "»");
         }
     }
 
@@ -56,6 +62,32 @@ final class Check {
         return box.assemble();
     }
 
+    /** The text lays these bytes from 0 on, and the address behind it is behind them. */
+    static void lays(String text, int... bytes) {
+        BelfryBox box = new BelfryBox();
+        String told = text.replace('\n', '/');
+        due("assemble " + told, assemble(box, text), bytes.length);
+        due("fault 0 of " + told, box.fault(0), 0);
+        due("fault 1 of " + told, box.fault(1), BelfryBox.NONE);
+        due("fault 2 of " + told, box.fault(2), BelfryBox.NONE);
+        due("fault -1 of " + told, box.fault(-1), BelfryBox.NONE);
+        for (int i = 0; i < bytes.length; i++) {
+            due("byte " + i + " of " + told, box.peek(i), bytes[i]);
+        }
+    }
+
+    /** The text has this fault at the place of | in it. */
+    static void fails(int fault, String marked) {
+        int place = marked.indexOf('|');
+        String text = marked.substring(0, place) + marked.substring(place + 1);
+        BelfryBox box = new BelfryBox();
+        String told = marked.replace('\n', '/');
+        due("assemble " + told, assemble(box, text), BelfryBox.NONE);
+        due("fault of " + told, box.fault(0), fault);
+        due("place in " + told, box.fault(1), place);
+        due("fault 2 of " + told, box.fault(2), BelfryBox.NONE);
+    }
+
     /** A box with a program from 512 on, where it starts; interrupts go to 1024, traps to 768. */
     static BelfryBox program(String lines) {
         BelfryBox box = new BelfryBox();
@@ -63,6 +95,28 @@ final class Check {
         if (end == BelfryBox.NONE) {
             due("fault of " + lines.replace('\n', '/') + " at " + box.fault(1), box.fault(0), 0);
         }
+        return box;
+    }
+
+    /** A box that has done the first steps of such a program. */
+    static BelfryBox ran(int steps, String lines) {
+        BelfryBox box = program(lines);
+        due("steps of " + lines.replace('\n', '/'), box.run(steps), steps);
+        return box;
+    }
+
+    /** Runs all lines but the last with no look at cycles, then the last: A, X, Y, F (I is 1), and its cycles. */
+    static BelfryBox does(String lines, int a, int x, int y, int f, int cycles) {
+        int count = lines.split("\n").length;
+        BelfryBox box = count > 1 ? ran(count - 1, lines) : program(lines);
+        String told = lines.replace('\n', '/');
+        int before = box.register(7);
+        box.run(1);
+        due("A of " + told, box.register(0), a);
+        due("X of " + told, box.register(1), x);
+        due("Y of " + told, box.register(2), y);
+        due("F of " + told, box.register(5), f + 4);
+        due("cycles of " + told, box.register(7) - before, cycles);
         return box;
     }
 
@@ -99,6 +153,21 @@ final class Check {
             all.append(" s=").append(box.strip(i));
         }
         return all.toString();
+    }
+
+    /** All that can be asked of a box: a call that does nothing leaves it. */
+    static String whole(BelfryBox box) {
+        StringBuilder all = new StringBuilder(state(box));
+        for (int i = 0; i <= 10; i++) {
+            all.append(" about").append(i).append('=').append(box.about(i));
+        }
+        for (int k = 0; k < box.about(8); k++) {
+            all.append(" name=").append(box.name(k, 0)).append(':').append(box.name(k, 1)).append(':')
+                    .append(box.name(k, 2));
+        }
+        all.append(" fault=").append(box.fault(0)).append(':').append(box.fault(1));
+        all.append(" out=").append(out(box));
+        return all.append(" store=").append(store(box).hashCode()).toString();
     }
 
     static String store(BelfryBox box) {

@@ -139,8 +139,8 @@ public final class DevicesTest {
     }
 
     private static void watch() {
-        BelfryBox box = Check.program("lda #1\nsta 4091\nsta 4082\nsta 4085\nsta 4093\nldx #9\nphx\ncli\nsec\nsta 4086\n"
-                + "idl #29\nidl #50\nhlt");
+        BelfryBox box = Check.program("lda #1\nsta 4091\nsta 4082\nsta 4085\nsta 4093\nldx #9\nphx\ncli\nsec\n"
+                + "sta 4086\nidl #29\nidl #50\nhlt");
         box.key(5);
         box.run(2);
         Check.due("WATCH is 64, less 5", box.device(9), 59);

@@ -15,30 +15,19 @@ public final class FaultTest {
         Check.end();
     }
 
-    /** The text has this fault at the place of | in it. */
-    private static void fails(int fault, String marked) {
-        int place = marked.indexOf('|');
-        String text = marked.substring(0, place) + marked.substring(place + 1);
-        BelfryBox box = new BelfryBox();
-        String told = marked.replace('\n', '/');
-        Check.due("assemble " + told, Check.assemble(box, text), NONE);
-        Check.due("fault of " + told, box.fault(0), fault);
-        Check.due("place in " + told, box.fault(1), place);
-        Check.due("fault 2 of " + told, box.fault(2), NONE);
-    }
-
     private static void syntax() {
         for (String text : new String[] {"lda|", "lda  |", "lda |;x", "lda|\nnop", "nop |5", "nop |nop", "|5", "|:",
             "|x: nop", "|y=5", "a |nop", "a |5", "a|", "a: |b", "a: |x", "a = |lda", "a =|", "a = 5 |nop", "|=5",
             "sta |#5", "jmp |#5", "beq |#5", "beq |<5", "beq |(5)", "beq 5|,x", "cal |#5", "psh |5", "trp |<5",
             "idl #|", "lda #5|,x", "lda <5,|y", "lda (5),|x", "lda (5|,x)", "lda (5|", "lda 5,|z", "lda 5,|",
-            "lda 5,|5", "lda 5,x|,y", "lda (5)|(5)", "lda 5 |6", "lda 5+|", "lda 5+|-3", "lda -|-3", "lda |+", "byte|", "byte 1,|", "byte |,1", "byte 1,2,|\n", "byte %|%5", "byte %|-5", "byte &|",
+            "lda 5,|5", "lda 5,x|,y", "lda (5)|(5)", "lda 5 |6", "lda 5+|", "lda 5+|-3", "lda -|-3", "lda |+",
+            "byte|", "byte 1,|", "byte |,1", "byte 1,2,|\n", "byte %|%5", "byte %|-5", "byte &|",
             "byte 1 |: 2", "text|", "text |5", "text |'a", "text \"a\" |\"b\"", "text \"a\"|,5", "org|", "org 5|,6",
             "space |#5", "|LDA #5", "l|D", "nop|\t", "nop |@", "|?", "a:|:",
             "a: |b:", "org 5|,", "lda |x", "byte |nop",
             "byte 1+|y", "byte 5|.", "byte .|.", "nop\nnop\n  |!", "rts |rts", "own |#5",
             "nop|\r\n", "nop |\"", "lda |\"a\"", "lda |)", "lda <|#5", "lda #|<5", "byte |=", "nop |, ;"}) {
-            fails(1, text);
+            Check.fails(1, text);
         }
     }
 
@@ -48,7 +37,7 @@ public final class FaultTest {
             "byte 'a|b", "text \"abc|", "text \"abc|\nnop", "text \"abc|\tx\"", "text \"|", "text \"|\177\"",
             "byte 1,$|", "byte %$|x", "nop |$g", "nop |'\t", "nop |\"abc", "lda 5|'", "lda 5|$", "lda (5|$",
             "a |$"}) {
-            fails(1, text);
+            Check.fails(1, text);
         }
     }
 
@@ -56,72 +45,73 @@ public final class FaultTest {
         for (String text : new String[] {"abcdefgh|i = 5", "abcdefgh|i: nop", "byte abcdefgh|i", "a2345678|9=1",
             "nop abcdefgh|ijkl", "lda 5,abcdefgh|i", "a: abcdefgh|i", "a abcdefgh|i", "byte 1abcdefgh|i",
             "nop\nlda #abcdefgh|1"}) {
-            fails(1, text);
+            Check.fails(1, text);
         }
     }
 
     private static void namesTold() {
-        fails(3, "a=1\n |a=2");
-        fails(3, "a:\n|a:");
-        fails(3, "a: nop\nb=a\n|a = 5");
+        Check.fails(3, "a=1\n |a=2");
+        Check.fails(3, "a:\n|a:");
+        Check.fails(3, "a: nop\nb=a\n|a = 5");
         StringBuilder sixty = new StringBuilder();
         for (int i = 0; i < 60; i++) {
             sixty.append('n').append(i).append(":\n");
         }
-        fails(6, sixty + "  |more: nop");
-        fails(6, sixty + "|more = none");
-        fails(3, sixty + "|n59 = 5");
-        fails(1, sixty + "more = |");
+        Check.fails(6, sixty + "  |more: nop");
+        Check.fails(6, sixty + "|more = none");
+        Check.fails(3, sixty + "|n59 = 5");
+        Check.fails(1, sixty + "more = |");
     }
 
     private static void unknown() {
-        fails(2, "org |a\na=5");
-        fails(2, "space 1+|a\na=5");
-        fails(2, "a = |b + c\nb=5");
-        fails(2, "a = |a");
-        fails(2, "a: org |a");
-        fails(2, "a: space |a");
-        fails(2, "byte 1,|a,b");
-        fails(2, "lda #|a");
-        fails(2, "b=1\nlda <b+%|c,x");
-        fails(2, "beq |a");
-        fails(2, "byte 256,|a");
-        fails(2, "word |a,99999");
+        Check.fails(2, "org |a\na=5");
+        Check.fails(2, "space 1+|a\na=5");
+        Check.fails(2, "a = |b + c\nb=5");
+        Check.fails(2, "a = |a");
+        Check.fails(2, "a: org |a");
+        Check.fails(2, "a: space |a");
+        Check.fails(2, "byte 1,|a,b");
+        Check.fails(2, "lda #|a");
+        Check.fails(2, "b=1\nlda <b+%|c,x");
+        Check.fails(2, "beq |a");
+        Check.fails(2, "byte 256,|a");
+        Check.fails(2, "word |a,99999");
     }
 
     private static void range() {
-        for (String text : new String[] {"org |4080", "org |-1", "space |4081", "space |-1", "a=4080\norg   |a", "lda #|256", "lda #|-129", "byte 1,|256", "byte |-129,300", "word |65536", "word 1,|-32769",
+        for (String text : new String[] {"org |4080", "org |-1", "space |4081", "space |-1", "a=4080\norg   |a",
+            "lda #|256", "lda #|-129", "byte 1,|256", "byte |-129,300", "word |65536", "word 1,|-32769",
             "lda <|256", "lda <|-1,x", "lda (|256)", "lda ( |-1),y", "lda |65536", "lda |-1", "lda |65536,x",
             "sta |-1,y", "beq |.+130", "beq |.-127", "cal |.+130", "djx |.-127", "psh #|256", "idl #|-129",
             "trp #|99999", "bra |4000", "byte 0,|%1+255+1", "nop\nbra |-125"}) {
-            fails(4, text);
+            Check.fails(4, text);
         }
     }
 
     private static void room() {
-        fails(5, "org 4079\n |nop");
-        fails(5, "org 4078\na: |lda 5");
-        fails(5, "org 4079\n|word 1");
-        fails(5, "org 4078\n|byte 1,2,3");
-        fails(5, "org 4078\n|text \"abc\"");
-        fails(5, "org 1\n|space 4080");
-        fails(5, "space 4080\n\n|byte 1");
-        fails(5, "space 4080\n|nop");
+        Check.fails(5, "org 4079\n |nop");
+        Check.fails(5, "org 4078\na: |lda 5");
+        Check.fails(5, "org 4079\n|word 1");
+        Check.fails(5, "org 4078\n|byte 1,2,3");
+        Check.fails(5, "org 4078\n|text \"abc\"");
+        Check.fails(5, "org 1\n|space 4080");
+        Check.fails(5, "space 4080\n\n|byte 1");
+        Check.fails(5, "space 4080\n|nop");
     }
 
     private static void order() {
-        fails(1, "a=1\na=|");
-        fails(3, "a=1\n|a: org b");
-        fails(3, "a=1\n|a: space 5000");
-        fails(2, "space 4080\nspace |a+9999");
-        fails(4, "space 4080\nspace |4081");
-        fails(1, "byte none\nbyte 256\n|?");
-        fails(5, "byte none\nspace 4079\n|byte 1");
-        fails(4, "byte |256\nbyte none");
-        fails(2, "byte |none\nbyte 256");
-        fails(4, "byte |-129,256");
-        fails(5, "org 4079\n|word 99999");
-        fails(3, "org 4079\na:\n|a: word 1");
+        Check.fails(1, "a=1\na=|");
+        Check.fails(3, "a=1\n|a: org b");
+        Check.fails(3, "a=1\n|a: space 5000");
+        Check.fails(2, "space 4080\nspace |a+9999");
+        Check.fails(4, "space 4080\nspace |4081");
+        Check.fails(1, "byte none\nbyte 256\n|?");
+        Check.fails(5, "byte none\nspace 4079\n|byte 1");
+        Check.fails(4, "byte |256\nbyte none");
+        Check.fails(2, "byte |none\nbyte 256");
+        Check.fails(4, "byte |-129,256");
+        Check.fails(5, "org 4079\n|word 99999");
+        Check.fails(3, "org 4079\na:\n|a: word 1");
     }
 
     private static void latest() {

@@ -15,20 +15,6 @@ public final class LanguageTest {
         Check.end();
     }
 
-    /** The text lays these bytes from 0 on, and the address behind it is behind them. */
-    private static void lays(String text, int... bytes) {
-        BelfryBox box = new BelfryBox();
-        String told = text.replace('\n', '/');
-        Check.due("assemble " + told, Check.assemble(box, text), bytes.length);
-        Check.due("fault 0 of " + told, box.fault(0), 0);
-        Check.due("fault 1 of " + told, box.fault(1), NONE);
-        Check.due("fault 2 of " + told, box.fault(2), NONE);
-        Check.due("fault -1 of " + told, box.fault(-1), NONE);
-        for (int i = 0; i < bytes.length; i++) {
-            Check.due("byte " + i + " of " + told, box.peek(i), bytes[i]);
-        }
-    }
-
     private static final String[] WORDS = {"lda", "ldx", "ldy", "add", "sub", "and", "ora", "xor", "cmp", "cpx",
         "cpy", "tst", "mul", "div", "adx", "ady", "sta", "stx", "sty", "stz", "inc", "dec", "shl", "shr", "rol",
         "ror", "set", "clr", "swp", "adm", "jmp", "jsr"};
@@ -42,53 +28,53 @@ public final class LanguageTest {
         for (int o = 0; o < 32; o++) {
             String word = WORDS[o];
             if (o < 16) {
-                lays(word + " #5", 8 * o, 5);
+                Check.lays(word + " #5", 8 * o, 5);
             }
-            lays(word + " <6", 8 * o + 1, 6);
-            lays(word + " <7,x", 8 * o + 2, 7);
-            lays(word + " 258", 8 * o + 3, 2, 1);
-            lays(word + " 258,x", 8 * o + 4, 2, 1);
-            lays(word + " 258,y", 8 * o + 5, 2, 1);
-            lays(word + " (8)", 8 * o + 6, 8);
-            lays(word + " (9),y", 8 * o + 7, 9);
+            Check.lays(word + " <6", 8 * o + 1, 6);
+            Check.lays(word + " <7,x", 8 * o + 2, 7);
+            Check.lays(word + " 258", 8 * o + 3, 2, 1);
+            Check.lays(word + " 258,x", 8 * o + 4, 2, 1);
+            Check.lays(word + " 258,y", 8 * o + 5, 2, 1);
+            Check.lays(word + " (8)", 8 * o + 6, 8);
+            Check.lays(word + " (9),y", 8 * o + 7, 9);
         }
-        lays("lda 5", 3, 5, 0);
-        lays("lda #-1", 0, 255);
-        lays("lda #-128", 0, 128);
+        Check.lays("lda 5", 3, 5, 0);
+        Check.lays("lda #-1", 0, 255);
+        Check.lays("lda #-128", 0, 128);
     }
 
     private static void shorts() {
         for (int k = 0; k < 16; k++) {
             int o = 16 + k;
             if (k == 12 || k == 14 || k == 15) {
-                lays(SHORTS[k] + " #5", 8 * o, 5);
+                Check.lays(SHORTS[k] + " #5", 8 * o, 5);
             } else if (k != 11) {
-                lays(SHORTS[k] + " .", 8 * o, 254);
-                lays(SHORTS[k] + " .+2", 8 * o, 0);
-                lays(SHORTS[k] + " .+129", 8 * o, 127);
-                lays(SHORTS[k] + " .-126", 8 * o, 128);
+                Check.lays(SHORTS[k] + " .", 8 * o, 254);
+                Check.lays(SHORTS[k] + " .+2", 8 * o, 0);
+                Check.lays(SHORTS[k] + " .+129", 8 * o, 127);
+                Check.lays(SHORTS[k] + " .-126", 8 * o, 128);
             }
         }
-        lays("nop\nbra .\nbra 0", 216, 0, 192, 254, 192, 250);
+        Check.lays("nop\nbra .\nbra 0", 216, 0, 192, 254, 192, 250);
     }
 
     private static void owns() {
         for (int b = 0; b < 32; b++) {
-            lays(OWNS[b], 216, b);
+            Check.lays(OWNS[b], 216, b);
         }
     }
 
     private static void laying() {
-        lays("byte 1,-128,255,'a", 1, 128, 255, 97);
-        lays("word 1,-32768,65535,258", 1, 0, 0, 128, 255, 255, 2, 1);
-        lays("text \"a ;b~\"", 97, 32, 59, 98, 126);
-        lays("text \"\"");
-        lays("text \"'\" ; remark", 39);
-        lays("byte 1\nspace 2\nbyte 2", 1, 0, 0, 2);
-        lays("byte 1,2,3,4\norg 1\nspace 2\nbyte 9", 1, 2, 3, 9);
-        lays("space 0");
-        lays("");
-        lays("\n\n;\n");
+        Check.lays("byte 1,-128,255,'a", 1, 128, 255, 97);
+        Check.lays("word 1,-32768,65535,258", 1, 0, 0, 128, 255, 255, 2, 1);
+        Check.lays("text \"a ;b~\"", 97, 32, 59, 98, 126);
+        Check.lays("text \"\"");
+        Check.lays("text \"'\" ; remark", 39);
+        Check.lays("byte 1\nspace 2\nbyte 2", 1, 0, 0, 2);
+        Check.lays("byte 1,2,3,4\norg 1\nspace 2\nbyte 9", 1, 2, 3, 9);
+        Check.lays("space 0");
+        Check.lays("");
+        Check.lays("\n\n;\n");
         BelfryBox box = new BelfryBox();
         Check.due("org", Check.assemble(box, "byte 7\norg 100\nbyte 8\norg 4079\nbyte 9"), 4080);
         Check.due("at 0", box.peek(0), 7);
@@ -101,24 +87,24 @@ public final class LanguageTest {
     }
 
     private static void sums() {
-        lays("byte 1+2-4", 255);
-        lays("byte - 3 + 5", 2);
-        lays("byte -'a+'b", 1);
-        lays("word 99999-34464", 255, 255);
-        lays("word $ffff,$0,$a,$12", 255, 255, 0, 0, 10, 0, 18, 0);
-        lays("byte %258,&258,%$1ff,&'a,% 513", 1, 2, 1, 97, 2);
-        lays("byte -%258+&3", 2);
-        lays("byte 0,0\nbyte .,.+1,%.", 0, 0, 2, 3, 0);
-        lays("byte 00007,$007", 7, 7);
-        lays("byte '',' ,';", 39, 32, 59);
-        lays("a=-1\nbyte %a,&a,a", 255, 255, 255);
-        lays("a=-257\nbyte %a,&a", 254, 255);
+        Check.lays("byte 1+2-4", 255);
+        Check.lays("byte - 3 + 5", 2);
+        Check.lays("byte -'a+'b", 1);
+        Check.lays("word 99999-34464", 255, 255);
+        Check.lays("word $ffff,$0,$a,$12", 255, 255, 0, 0, 10, 0, 18, 0);
+        Check.lays("byte %258,&258,%$1ff,&'a,% 513", 1, 2, 1, 97, 2);
+        Check.lays("byte -%258+&3", 2);
+        Check.lays("byte 0,0\nbyte .,.+1,%.", 0, 0, 2, 3, 0);
+        Check.lays("byte 00007,$007", 7, 7);
+        Check.lays("byte '',' ,';", 39, 32, 59);
+        Check.lays("a=-1\nbyte %a,&a,a", 255, 255, 255);
+        Check.lays("a=-257\nbyte %a,&a", 254, 255);
         // 2^31 goes round to the least int, twice that to 0.
         StringBuilder text = new StringBuilder("a0=32768\n");
         for (int i = 1; i <= 17; i++) {
             text.append('a').append(i).append("=a").append(i - 1).append("+a").append(i - 1).append('\n');
         }
-        lays(text + "byte a17", 0);
+        Check.lays(text + "byte a17", 0);
         BelfryBox box = new BelfryBox();
         Check.assemble(box, text.toString());
         Check.due("2^31", box.name(16, 0), Integer.MIN_VALUE);
@@ -126,20 +112,20 @@ public final class LanguageTest {
     }
 
     private static void spacing() {
-        lays("   lda   #  5   ;x", 0, 5);
-        lays("lda#5;x\377\t", 0, 5);
-        lays("a:lda(5),y", 7, 5);
-        lays("a : lda ( 5 ) , y", 7, 5);
-        lays("lda<5 ,x", 2, 5);
-        lays("a:", new int[0]);
-        lays("a=5;", new int[0]);
-        lays(";any thing $ \" '\nnop", 216, 0);
-        lays("lda5:lda lda5", 3, 0, 0);
-        lays("own=7\nbyte own", 7);
-        lays("x1=3\ny2=4\nbyte x1,y2", 3, 4);
-        lays("abcdefgh=3\nbyte abcdefgh", 3);
-        lays("text\"a\"", 97);
-        lays("byte 1 , 2", 1, 2);
+        Check.lays("   lda   #  5   ;x", 0, 5);
+        Check.lays("lda#5;x\377\t", 0, 5);
+        Check.lays("a:lda(5),y", 7, 5);
+        Check.lays("a : lda ( 5 ) , y", 7, 5);
+        Check.lays("lda<5 ,x", 2, 5);
+        Check.lays("a:", new int[0]);
+        Check.lays("a=5;", new int[0]);
+        Check.lays(";any thing $ \" '\nnop", 216, 0);
+        Check.lays("lda5:lda lda5", 3, 0, 0);
+        Check.lays("own=7\nbyte own", 7);
+        Check.lays("x1=3\ny2=4\nbyte x1,y2", 3, 4);
+        Check.lays("abcdefgh=3\nbyte abcdefgh", 3);
+        Check.lays("text\"a\"", 97);
+        Check.lays("byte 1 , 2", 1, 2);
     }
 
     private static void names() {
@@ -166,23 +152,23 @@ public final class LanguageTest {
         Check.due("its value", box.name(0, 0), 9);
         Check.due("its place", box.name(0, 1), 2);
         Check.due("none of before", box.name(1, 0), 0);
-        lays("byte late\nlate: byte 7", 1, 7);
-        lays("jmp end\nend: nop", 243, 3, 0, 216, 0);
+        Check.lays("byte late\nlate: byte 7", 1, 7);
+        Check.lays("jmp end\nend: nop", 243, 3, 0, 216, 0);
         StringBuilder sixty = new StringBuilder();
         for (int i = 0; i < 60; i++) {
             sixty.append('n').append(i).append('=').append(i).append('\n');
         }
-        lays(sixty + "byte n0,n59", 0, 59);
+        Check.lays(sixty + "byte n0,n59", 0, 59);
     }
 
     private static void ranges() {
-        lays("lda <255", 1, 255);
-        lays("lda <0,x", 2, 0);
-        lays("lda (255)", 6, 255);
-        lays("lda 65535", 3, 255, 255);
-        lays("lda #255", 0, 255);
-        lays("idl #-128", 248, 128);
-        lays("space 127\nl: nop\nspace 1\norg 0\nbra l+2", 192, 127);
+        Check.lays("lda <255", 1, 255);
+        Check.lays("lda <0,x", 2, 0);
+        Check.lays("lda (255)", 6, 255);
+        Check.lays("lda 65535", 3, 255, 255);
+        Check.lays("lda #255", 0, 255);
+        Check.lays("idl #-128", 248, 128);
+        Check.lays("space 127\nl: nop\nspace 1\norg 0\nbra l+2", 192, 127);
     }
 
     private static void assembleTwice() {
