@@ -128,6 +128,7 @@ public final class DeviceEdgesTest {
         }
         box.run(1);
         Check.due("all bells rest", box.register(1), 0);
+        Check.does("lda #255\ncmp 4087", 255, 0, 0, 3, 4);
         for (int bell = 0; bell < 8; bell++) {
             BelfryBox one = Check.ran(3, "lda #" + bell + "\nsta 4087\nldx 4087");
             Check.due("without bell " + bell, one.register(1), 255 - (1 << bell));
@@ -186,6 +187,7 @@ public final class DeviceEdgesTest {
         BelfryBox box = Check.program("stx 4090\nlda 4090\ninx\nbra .-8");
         box.run(4 * 199);
         Check.due("199", box.about(7), 199);
+        Check.due("199 read", box.register(0), 199);
         box.run(2);
         Check.due("200 read", box.register(0), 200);
         Check.due("none is LOST", box.about(4), 0);
@@ -475,8 +477,9 @@ public final class DeviceEdgesTest {
         Check.due("a RESET", box.about(5), 1);
         Check.due("P", box.register(4), 512);
         Check.due("all cycles of the STEP passed", box.register(7), 2 + 5 + 58 + 2);
-        box = Check.ran(3, "lda #1\nsta 4091\nidl #57");
+        box = Check.ran(5, "lda #1\nldx #2\nldy #3\nsta 4091\nidl #57");
         Check.due("with the last cycle", box.about(5), 1);
+        Check.due("A, X and Y", box.register(0) + box.register(1) + box.register(2), 0);
         box = Check.ran(3, "lda #1\nsta 4091\nidl #255");
         Check.due("one RESET for many cycles", box.about(5), 1);
         Check.due("WATCH stays 0", box.device(9), 0);

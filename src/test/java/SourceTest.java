@@ -9,7 +9,10 @@ import java.util.regex.Pattern;
 public final class SourceTest {
     private static final String FORBIDDEN =
             "\\b(throw|throws|try|catch|finally|synchronized|assert|instanceof|System\\.(?!arraycopy)\\w+|Thread|Random"
-            + "|package|protected|\\w+Exact|hashCode|toString|lambda)\\b|->|::";
+            + "|package|protected|\\w+Exact|hashCode|toString|double|float|record)\\b|->|::|\" \\+|\\+ \""
+            + "|\\bMath\\.(?!(max|min|abs)\\()|\\bArrays\\.(?!fill\\()|while \\(true|for \\(;";
+    /** A static field that is not final. */
+    private static final Pattern STATIC = Pattern.compile("\\bstatic (?!final|class)[^(]*(=|;)");
     private static final Pattern METHOD = Pattern.compile("^( +)(?!.*\\b(class|new|return)\\b).*\\) \\{$");
 
     public static void main(String[] args) throws IOException {
@@ -19,11 +22,27 @@ public final class SourceTest {
             String line = lines.get(i);
             boolean remark = line.strip().startsWith("*") || line.strip().startsWith("/");
             Check.due("forbidden in line " + (i + 1) + ": " + line, !remark && forbidden.matcher(line).find(), false);
+            Check.due("a static field in line " + (i + 1), STATIC.matcher(line).find(), false);
             Check.due("import in line " + (i + 1),
                     line.startsWith("import") && !line.equals("import java.util.Arrays;"), false);
         }
         methodLengths(lines);
+        sizes(lines);
         Check.end();
+    }
+
+    private static void sizes(List<String> lines) {
+        int classes = 0;
+        for (String line : lines) {
+            if (line.matches(" *(public |private static )final class \\w+ \\{")) {
+                classes++;
+            }
+            if (METHOD.matcher(line).matches()) {
+                int parameters = line.replaceAll("[^,]", "").length() + 1;
+                Check.due("at most seven parameters: " + line.strip(), parameters <= 7, true);
+            }
+        }
+        Check.due("some twelve classes at most", classes > 1 && classes <= 12, true);
     }
 
     private static void methodLengths(List<String> lines) {
