@@ -15,18 +15,9 @@ public final class LanguageTest {
         Check.end();
     }
 
-    private static final String[] WORDS = {"lda", "ldx", "ldy", "add", "sub", "and", "ora", "xor", "cmp", "cpx",
-        "cpy", "tst", "mul", "div", "adx", "ady", "sta", "stx", "sty", "stz", "inc", "dec", "shl", "shr", "rol",
-        "ror", "set", "clr", "swp", "adm", "jmp", "jsr"};
-    private static final String[] SHORTS = {"beq", "bne", "bcs", "bcc", "bmi", "bpl", "bvs", "bvc", "bra", "djx",
-        "djy", null, "psh", "cal", "trp", "idl"};
-    private static final String[] OWNS = {"nop", "rts", "rti", "hlt", "tax", "txa", "tay", "tya", "tsx", "txs",
-        "pha", "pla", "phx", "plx", "phy", "ply", "phf", "plf", "sec", "clc", "sei", "cli", "clv", "inx", "dex",
-        "iny", "dey", "ina", "dea", "neg", "swn", "bcd"};
-
     private static void ways() {
         for (int o = 0; o < 32; o++) {
-            String word = WORDS[o];
+            String word = PlainAssembler.WAY_WORDS.get(o);
             if (o < 16) {
                 Check.lays(word + " #5", 8 * o, 5);
             }
@@ -46,13 +37,14 @@ public final class LanguageTest {
     private static void shorts() {
         for (int k = 0; k < 16; k++) {
             int o = 16 + k;
+            String word = PlainAssembler.SHORT_WORDS.get(k);
             if (k == 12 || k == 14 || k == 15) {
-                Check.lays(SHORTS[k] + " #5", 8 * o, 5);
+                Check.lays(word + " #5", 8 * o, 5);
             } else if (k != 11) {
-                Check.lays(SHORTS[k] + " .", 8 * o, 254);
-                Check.lays(SHORTS[k] + " .+2", 8 * o, 0);
-                Check.lays(SHORTS[k] + " .+129", 8 * o, 127);
-                Check.lays(SHORTS[k] + " .-126", 8 * o, 128);
+                Check.lays(word + " .", 8 * o, 254);
+                Check.lays(word + " .+2", 8 * o, 0);
+                Check.lays(word + " .+129", 8 * o, 127);
+                Check.lays(word + " .-126", 8 * o, 128);
             }
         }
         Check.lays("nop\nbra .\nbra 0", 216, 0, 192, 254, 192, 250);
@@ -60,7 +52,7 @@ public final class LanguageTest {
 
     private static void owns() {
         for (int b = 0; b < 32; b++) {
-            Check.lays(OWNS[b], 216, b);
+            Check.lays(PlainAssembler.OWN_WORDS.get(b), 216, b);
         }
     }
 
