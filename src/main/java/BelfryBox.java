@@ -53,7 +53,13 @@ public final class BelfryBox {
     private static final int FLAG_C = 1;
     private static final int ALL_FLAGS = 199;
 
+    // Below it way 0 is a value; from it on it makes a short code, another one than the other ways make.
+    private static final int FIRST_SHORT_CODE = 16;
     private static final int OWN = 27;
+    private static final int PSH = 28;
+    private static final int CAL = 29;
+    private static final int TRP = 30;
+    private static final int IDL = 31;
     private static final int LAST_OWN = 31;
     private static final int INTERRUPT = 256;
 
@@ -69,15 +75,15 @@ public final class BelfryBox {
     private static final int DRUM_ROWS = 64;
     private static final int BELLS = 8;
 
-    // The words by their numbers: codes with ways, codes of way 0 from 16 on, OWN's, and what lays bytes.
+    // The words by their numbers: codes with ways, short codes, OWN's, and what lays bytes.
     private static final String WAY_WORDS =
             "ldaldxldyaddsubandoraxorcmpcpxcpytstmuldivadxadystastxstystzincdecshlshrrolrorsetclrswpadmjmpjsr";
     private static final String SHORT_WORDS = "beqbnebcsbccbmibplbvsbvcbradjxdjy---pshcaltrpidl";
     private static final String OWN_WORDS =
             "noprtsrtihlttaxtxataytyatsxtxsphaplaphxplxphyplyphfplfsecclcseicliclvinxdexinydeyinadeanegswnbcd";
     private static final String LAYING_WORDS = "org  spacebyte word text ";
-    private static final int FIRST_SHORT = 32;
-    private static final int FIRST_OWN = 48;
+    private static final int FIRST_SHORT_WORD = 32;
+    private static final int FIRST_OWN_WORD = 48;
     private static final int ORG = 80;
     private static final int SPACE = 81;
     private static final int BYTE = 82;
@@ -274,9 +280,13 @@ public final class BelfryBox {
         return b > 127 ? b - 256 : b;
     }
 
-    /** True of PSH, TRP and IDL, false of the branches and CAL. */
+    private static boolean isShort(int code) {
+        return (code & 7) == 0 && code >> 3 >= FIRST_SHORT_CODE;
+    }
+
+    /** Of the short codes: branches and CAL take a distance. */
     private static boolean takesValue(int o) {
-        return o == 28 || o == 30 || o == 31;
+        return o == PSH || o == TRP || o == IDL;
     }
 
     /** The addresses at which run() stops. */
@@ -629,7 +639,7 @@ public final class BelfryBox {
             if (now[HALTED] != 0) {
                 return WAS_HALTED;
             }
-            boolean illegal = store[now[P]] == 8 * OWN && store[now[P] + 1 & ADDRESS_BITS] > LAST_OWN;
+            boolean illegal = byteAt(now[P]) == 8 * OWN && byteAt(now[P] + 1) > LAST_OWN;
             return illegal && !interruptComes() ? ILLEGAL : 0;
         }
 
@@ -666,11 +676,11 @@ public final class BelfryBox {
         private int doCode(int code) {
             int o = code >> 3;
             int way = code & 7;
-            if (way == 0 && o >= 16) {
+            if (isShort(code)) {
                 int b = takeByte();
                 return o == OWN ? doOwn(b) : doShort(o, b);
             }
-            if (o < 16) {
+            if (o < FIRST_SHORT_CODE) {
                 useValue(o, way == 0 ? takeByte() : readAt(findAddress(way)));
             } else {
                 useAddress(o, findAddress(way));
@@ -678,8 +688,12 @@ public final class BelfryBox {
             return WAY_CYCLES[way] + MORE_CYCLES[o];
         }
 
+        private int byteAt(int address) {
+            return store[address & ADDRESS_BITS];
+        }
+
         private int takeByte() {
-            int b = store[now[P]];
+            int b = byteAt(now[P]);
             now[P] = now[P] + 1 & ADDRESS_BITS;
             return b;
         }
@@ -702,15 +716,15 @@ public final class BelfryBox {
         }
 
         private int pointerAt(int d) {
-            return store[d] + 256 * store[d + 1 & 255];
+            return byteAt(d) + 256 * byteAt(d + 1 & 255);
         }
 
         private int placeAt(int word) {
-            return store[word] + 256 * store[word + 1] & ADDRESS_BITS;
+            return byteAt(word) + 256 * byteAt(word + 1) & ADDRESS_BITS;
         }
 
         private int readAt(int address) {
-            return address >= PORTS ? devices.readPort(address - PORTS) : store[address];
+            return address >= PORTS ? devices.readPort(address - PORTS) : byteAt(address);
         }
 
         private void writeAt(int address, int b) {
@@ -866,21 +880,21 @@ public final class BelfryBox {
             return v / 2 + 128 * high;
         }
 
-        /** Does a code of way 0 from 16 on (but OWN): how many cycles it takes. */
+        /** Does a short code (but OWN): how many cycles it takes. */
         private int doShort(int o, int b) {
             switch (o) {
-                case 28:
+                case PSH:
                     push(b);
                     return 3;
-                case 29:
+                case CAL:
                     pushPlace();
                     goBy(b);
                     return 5;
-                case 30:
+                case TRP:
                     enter(TRAP_WORD);
                     now[A] = b;
                     return 7;
-                case 31:
+                case IDL:
                     return 2 + b;
                 default:
                     return branch(o, b);
@@ -1027,7 +1041,7 @@ public final class BelfryBox {
             int o = code >> 3;
             int way = code & 7;
             length = 0;
-            if (way == 0 && o >= 16) {
+            if (isShort(code)) {
                 tellShort(o, low);
                 return 2;
             }
@@ -1068,7 +1082,7 @@ public final class BelfryBox {
                 putIllegal(b);
                 return;
             }
-            putWord(SHORT_WORDS, o - 16);
+            putWord(SHORT_WORDS, o - FIRST_SHORT_CODE);
             put(' ');
             if (takesValue(o)) {
                 put('#');
@@ -1172,8 +1186,8 @@ public final class BelfryBox {
             if (isLetter(b)) {
                 readLetters();
                 if (kind == NAME) {
-                    value = Math.max(wordIn(WAY_WORDS, 3, 0), wordIn(SHORT_WORDS, 3, FIRST_SHORT));
-                    value = Math.max(value, wordIn(OWN_WORDS, 3, FIRST_OWN));
+                    value = Math.max(wordIn(WAY_WORDS, 3, 0), wordIn(SHORT_WORDS, 3, FIRST_SHORT_WORD));
+                    value = Math.max(value, wordIn(OWN_WORDS, 3, FIRST_OWN_WORD));
                     value = Math.max(value, wordIn(LAYING_WORDS, 5, ORG));
                     kind = value == NONE ? NAME : WORD;
                 }
@@ -1439,15 +1453,15 @@ public final class BelfryBox {
             word = tape.value;
             wordPlace = tape.place;
             tape.next();
-            if (word < FIRST_SHORT) {
+            if (word < FIRST_SHORT_WORD) {
                 return readWay(word);
             }
-            if (word < FIRST_OWN) {
-                return readShort(word - FIRST_SHORT + 16);
+            if (word < FIRST_OWN_WORD) {
+                return readShort(word - FIRST_SHORT_WORD + FIRST_SHORT_CODE);
             }
             if (word < ORG) {
                 lay(8 * OWN);
-                lay(word - FIRST_OWN);
+                lay(word - FIRST_OWN_WORD);
                 return true;
             }
             if (word == ORG || word == SPACE) {
@@ -1463,7 +1477,7 @@ public final class BelfryBox {
         private boolean readWay(int o) {
             int mark = tape.kind;
             int way = 3;
-            if (mark == '#' && o < 16) {
+            if (mark == '#' && o < FIRST_SHORT_CODE) {
                 way = 0;
             } else if (mark == '<') {
                 way = 1;
